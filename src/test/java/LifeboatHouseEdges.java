@@ -1,6 +1,8 @@
 import java.io.IOException;
 import java.nio.file.Files;
 import java.nio.file.Path;
+import java.util.HashSet;
+import java.util.Set;
 
 /**
  * Each sentence of the document that names a boundary has a test of its own here, on both sides
@@ -12,14 +14,14 @@ public final class LifeboatHouseEdges {
     private static final int TOP = Integer.MAX_VALUE;
     private static final int WHOLE = 1 << 20;
     private static int wrong = 0;
-    private static int sentences = 0;
+    private static final Set<String> SENTENCES = new HashSet<>();
     private static String sentence = "";
     private static String document = "";
 
     /** The words are the document's own, so that a test can be found by them. */
     private static void says(String words) {
         sentence = words;
-        sentences++;
+        SENTENCES.add(words);
         if (!document.contains(words)) {
             wrong++;
             System.out.println("\"" + words + "\" does not stand in the document");
@@ -1142,7 +1144,7 @@ public final class LifeboatHouseEdges {
         personOf();
         count();
         refusalsInEachCall();
-        System.out.println(wrong == 0 ? sentences + " sentences hold" : wrong + " answers are not as due");
+        System.out.println(wrong == 0 ? SENTENCES.size() + " sentences hold" : wrong + " answers are not as due");
         if (wrong != 0) System.exit(1);
     }
 }

@@ -567,7 +567,7 @@ public final class LifeboatHouseRefusals {
 
     private static final int[] ANY = {LOW, LOW + 1, -2, -1, 0, 1, 2, 7, 200001, TOP - 1, TOP};
 
-    /** No call throws, whatever it is given; what it answers is a number, -9 or one of the refusals. */
+    /** No call throws, however far off its arguments are; what it answers is a number, -9 or one of the refusals. */
     private static void anyArguments(Supplier<LifeboatHouse> made) throws ReflectiveOperationException {
         for (Method m : LifeboatHouse.class.getDeclaredMethods()) {
             if (!Modifier.isPublic(m.getModifiers())) continue;
