@@ -747,25 +747,25 @@ public final class LifeboatHouse {
         void find() {
             bestHelped = -1;
             bestMiles = 0;
-            tryFrom(0, 0, 0);
+            tryFrom(this, 0, 0, 0);
         }
 
         /** Tries the least helper first and none last, so of equal plans the first one stays. */
-        private void tryFrom(int station, int helped, int together) {
+        private static void tryFrom(FlankPlan plan, int station, int helped, int together) {
             if (station >= STATIONS) {
-                keepIfBetter(helped, together);
+                plan.keepIfBetter(helped, together);
                 return;
             }
-            for (int s = 0; bare[station] && s < STATIONS; s++) {
-                int way = Math.abs(miles[s] - miles[station]);
-                if (spare[s] < 1 || way > FURTHEST) continue;
-                spare[s]--;
-                from[station] = s;
-                tryFrom(station + 1, helped + 1, together + way);
-                spare[s]++;
+            for (int s = 0; plan.bare[station] && s < STATIONS; s++) {
+                int way = Math.abs(plan.miles[s] - plan.miles[station]);
+                if (plan.spare[s] < 1 || way > FURTHEST) continue;
+                plan.spare[s]--;
+                plan.from[station] = s;
+                tryFrom(plan, station + 1, helped + 1, together + way);
+                plan.spare[s]++;
             }
-            from[station] = NONE;
-            tryFrom(station + 1, helped, together);
+            plan.from[station] = NONE;
+            tryFrom(plan, station + 1, helped, together);
         }
 
         private void keepIfBetter(int helped, int together) {

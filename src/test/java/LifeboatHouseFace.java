@@ -1,8 +1,10 @@
+import java.io.IOException;
 import java.lang.reflect.Constructor;
 import java.lang.reflect.Field;
 import java.lang.reflect.Member;
 import java.lang.reflect.Method;
 import java.lang.reflect.Modifier;
+import java.nio.file.DirectoryStream;
 import java.nio.file.Files;
 import java.nio.file.Path;
 import java.util.Arrays;
@@ -11,7 +13,7 @@ import java.util.TreeSet;
 import java.util.regex.Matcher;
 import java.util.regex.Pattern;
 
-/** The public face of the document, and the rules of LANGUAGE.md that a look at the source can tell. */
+/** The public face of the document, and that README.md tells of all of it. */
 public final class LifeboatHouseFace {
     private static int wrong = 0;
 
@@ -77,26 +79,27 @@ public final class LifeboatHouseFace {
         }
     }
 
-    private static void source() throws Exception {
-        String text = Files.readString(Path.of("src/main/java/LifeboatHouse.java"));
-        for (int i = 0; i < text.length(); i++) {
-            if (text.charAt(i) > 126) need(false, "a sign above 126 at " + i);
+    /** README.md names each call of the class and each test of the project, and no test that is not there. */
+    private static void readme() throws IOException {
+        String text = Files.readString(Path.of("README.md"));
+        for (String call : FACE.split(" ")) {
+            String start = call.substring(0, call.indexOf('(') + 1);
+            need(Pattern.compile("\\b" + Pattern.quote(start)).matcher(text).find(), "README.md does not name " + call);
         }
-        String code = text.replaceAll("(?s)/\\*.*?\\*/", "").replaceAll("//[^\n]*", "");
-        Matcher m = Pattern.compile(
-            "\\b(throw|throws|try|catch|synchronized|assert|Exception|Thread|System\\.(?!arraycopy)\\w+|\\w+Exact)\\b|->|::")
-            .matcher(code);
-        while (m.find()) need(false, "not in the language: " + m.group());
-        Matcher imports = Pattern.compile("import ([^;]+);").matcher(code);
-        while (imports.find()) {
-            need(imports.group(1).matches("java\\.util\\.(ArrayList|List|Arrays)"), "import " + imports.group(1));
+        Set<String> told = new TreeSet<>();
+        Matcher names = Pattern.compile("src/test/java/(\\w+\\.java)").matcher(text);
+        while (names.find()) told.add(names.group(1));
+        Set<String> there = new TreeSet<>();
+        try (DirectoryStream<Path> tests = Files.newDirectoryStream(Path.of("src/test/java"))) {
+            for (Path test : tests) there.add(test.getFileName().toString());
         }
+        need(told.equals(there), "README.md names the tests " + told + ", there are " + there);
     }
 
-    public static void main(String[] args) throws Exception {
+    public static void main(String[] args) throws IOException {
         face();
         classesInside();
-        source();
+        readme();
         System.out.println(wrong == 0 ? "the face is as due" : wrong + " faults");
         if (wrong != 0) System.exit(1);
     }
